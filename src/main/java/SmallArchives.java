@@ -467,6 +467,15 @@ public final class SmallArchives {
             return contents.at(holder(i), k);
         }
 
+        int contentsSum(int i) {
+            int owner = holder(i);
+            int sum = 0;
+            for (int k = 0; k < contents.length(owner); k++) {
+                sum += contents.at(owner, k);
+            }
+            return sum & 65535;
+        }
+
         boolean isNamed(int i, String text) {
             if (names.length(i) != text.length()) {
                 return false;
@@ -587,12 +596,14 @@ public final class SmallArchives {
         private final int[] begins;
         private final int[] numbers;
         private final int[] links;
+        private final int[] holders;
 
         Entries() {
             super(ENTRY_LIMIT, ROW_LIMIT);
             begins = new int[ENTRY_LIMIT];
             numbers = new int[ENTRY_LIMIT];
             links = new int[ENTRY_LIMIT];
+            holders = new int[ENTRY_LIMIT];
         }
 
         void begin(int place) {
@@ -602,6 +613,7 @@ public final class SmallArchives {
                 begins[i] = place;
             }
             setNumber(0, 1);
+            setHolder(i, i);
         }
 
         void setNumber(int number, int linksTold) {
@@ -609,6 +621,12 @@ public final class SmallArchives {
             if (i >= 0 && i < numbers.length && i < links.length) {
                 numbers[i] = number;
                 links[i] = linksTold;
+            }
+        }
+
+        private void setHolder(int i, int owner) {
+            if (i >= 0 && i < holders.length) {
+                holders[i] = owner;
             }
         }
 
@@ -629,9 +647,19 @@ public final class SmallArchives {
         }
 
         int holder(int i) {
-            if (!has(i)) {
-                return i;
+            return has(i) && i < holders.length ? holders[i] : i;
+        }
+
+        // Only when reading has ended is it known which one of a group was READ last.
+        void shareContents() {
+            for (int i = 0; i < count(); i++) {
+                if (linksAt(i) > 1) {
+                    setHolder(i, lastOfGroup(i));
+                }
             }
+        }
+
+        private int lastOfGroup(int i) {
             for (int j = last(); j > i; j--) {
                 if (areLinked(i, j)) {
                     return j;
@@ -641,10 +669,7 @@ public final class SmallArchives {
         }
 
         int firstOfGroup(int i) {
-            if (!has(i)) {
-                return i;
-            }
-            for (int j = 0; j < i; j++) {
+            for (int j = 0; j < i && j < count(); j++) {
                 if (areLinked(i, j)) {
                     return j;
                 }
@@ -1019,7 +1044,7 @@ public final class SmallArchives {
         private static void packFile(Files files, int i, Bytes out) {
             boolean full = files.isLastOfGroup(i);
             int size = full ? files.contentsLength(i) : 0;
-            int sum = full ? sumOf(files, i) : 0;
+            int sum = full ? files.contentsSum(i) : 0;
             packHead(files.numberOf(i), files.linksOf(i), files.nameLength(i), size, sum, out);
             out.addName(files, i);
             packNameEnd(files.nameLength(i), out);
@@ -1048,14 +1073,6 @@ public final class SmallArchives {
             }
         }
 
-        private static int sumOf(Shelf shelf, int i) {
-            int sum = 0;
-            for (int k = 0; k < shelf.contentsLength(i); k++) {
-                sum += shelf.contentsByte(i, k);
-            }
-            return sum & 65535;
-        }
-
         void unpack(Cursor in, Entries entries) {
             boolean goesOn = true;
             for (int turn = 0; turn < ENTRY_LIMIT && goesOn; turn++) {
@@ -1065,6 +1082,7 @@ public final class SmallArchives {
                     entries.dropLast();
                 }
             }
+            entries.shareContents();
             if (!in.hasFinding() && unpackZeros(in)) {
                 findLost(in, entries);
             }
@@ -1090,7 +1108,7 @@ public final class SmallArchives {
             if (!in.takeContents(entries, size)) {
                 return false;
             }
-            if (sumOf(entries, entries.last()) != sum) {
+            if (entries.contentsSum(entries.last()) != sum) {
                 return in.find(KIND_SUM, head + SUM_FIELD);
             }
             entries.setNumber(number, links);

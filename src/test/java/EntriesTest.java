@@ -8,6 +8,7 @@ public final class EntriesTest {
         got();
         kept();
         same();
+        readAgain();
         CHECK.end();
     }
 
@@ -102,6 +103,35 @@ public final class EntriesTest {
         CHECK.due("14: entries() stays", x.entries(), 3);
     }
 
+    /** FILES that differ in one point from the ENTRIES READ, which are b with B and c with C. */
+    private static void dueOneOff(String name0, String bytes0, String name1, String bytes1) {
+        SmallArchives x = new SmallArchives();
+        Check.add(x, "b", "B");
+        Check.add(x, "c", "C");
+        x.write(1);
+        x.read(1);
+        CHECK.due("17: same()", x.same(), 1);
+        x.clear();
+        Check.add(x, name0, bytes0);
+        Check.add(x, name1, bytes1);
+        CHECK.due("17: same() of " + name0 + bytes0 + " " + name1 + bytes1, x.same(), 0);
+    }
+
+    /** A read begins with nothing of the one before it, however often. */
+    private static void readAgain() {
+        SmallArchives x = new SmallArchives();
+        Check.add(x, Check.times("n", 20), Check.times("d", 60));
+        for (int i = 1; i < 12; i++) {
+            Check.addLink(x, Check.times("m", 20), 0);
+        }
+        for (int turn = 0; turn < 20; turn++) {
+            int form = turn % 3;
+            x.write(form);
+            CHECK.due("12: read(" + form + ") again", x.read(form), 12);
+            CHECK.due("17: same() again", x.same(), 1);
+        }
+    }
+
     private static void same() {
         SmallArchives x = three();
         CHECK.due("17: FILES, and none READ", x.same(), 0);
@@ -140,6 +170,13 @@ public final class EntriesTest {
         Check.add(x, "b", "B");
         x.read(2);
         CHECK.due("17: another order", x.same(), 0);
+        dueOneOff("b", "C", "c", "C");
+        dueOneOff("b", "B", "c", "B");
+        dueOneOff("q", "B", "c", "C");
+        dueOneOff("b", "B", "q", "C");
+        dueOneOff("b", "BB", "c", "C");
+        dueOneOff("bb", "B", "c", "C");
+        dueOneOff("b", "B", "c", "");
         x.clear();
         Check.add(x, "b", "B");
         CHECK.due("17: an ENTRY more", x.same(), 0);

@@ -146,5 +146,15 @@ public final class FilesTest {
         x.file();
         CHECK.due("6: one without a NAME is counted", x.clear(), 3);
         CHECK.due("6: then a FILE may come", x.file(), 0);
+        SmallArchives y = new SmallArchives();
+        for (int turn = 0; turn < 2; turn++) {
+            for (int i = 0; i < 11; i++) {
+                Check.add(y, Check.times("n", 18), "");
+            }
+            CHECK.due("6: the 12th FILE", y.file(), 11);
+            CHECK.due("6: there is room for its NAME", y.name('n'), 1);
+            CHECK.due("6: and for its CONTENTS", y.data(1), 1);
+            CHECK.due("6: clear() of all", y.clear(), 12);
+        }
     }
 }

@@ -57,6 +57,11 @@ public final class RowTest {
         CHECK.due("10: poke(1, 255)", x.poke(1, 255), 'b');
         CHECK.due("10: poke(1, 0)", x.poke(1, 0), 255);
         CHECK.due("10: row(1)", x.row(1), 0);
+        CHECK.due("10: poke(0, 1)", x.poke(0, 1), 'a');
+        CHECK.due("10: row(0)", x.row(0), 1);
+        CHECK.due("10: poke(0, 'a')", x.poke(0, 'a'), 1);
+        CHECK.due("10: poke(2, 9)", x.poke(2, 9), 'c');
+        CHECK.due("10: poke(2, 'c')", x.poke(2, 'c'), 9);
         int[] badPlaces = {Integer.MIN_VALUE, -1, 3, 1500, Integer.MAX_VALUE};
         for (int i : badPlaces) {
             CHECK.due("10: poke(" + i + ", 1)", x.poke(i, 1), SmallArchives.OUTSIDE);

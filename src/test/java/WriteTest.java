@@ -44,7 +44,9 @@ public final class WriteTest {
         Check.add(y, "TRAILER", "");
         Check.add(y, "TRAILER!!", "");
         Check.add(y, "trailer!", "");
-        CHECK.due("7: others like TRAILER!", y.write(2), 3 * 13 + 7 + 9 + 8);
+        Check.add(y, "XRAILER!", "");
+        Check.add(y, "TRAILER?", "");
+        CHECK.due("7: others like TRAILER!", y.write(2), 5 * 13 + 7 + 9 + 8 + 8 + 8);
         y.clear();
         CHECK.due("7: no FILES", y.write(2), 0);
         CHECK.due("7: THE ROW is empty then", y.row(SmallArchives.NONE), 0);
