@@ -846,7 +846,7 @@ public final class SmallArchives {
         private static final int HEAD_FIELDS = 12;
         private static final int SHORT_NAME = 7;
 
-        // What the latest NAME FIELD was: both are NONE and false for a short NAME.
+        // What the latest NAME FIELD tells beside a short NAME, of which longPlace is NONE.
         private int longPlace;
         private boolean isTable;
         private int tableStart;

@@ -1,5 +1,7 @@
 import java.util.ArrayList;
 import java.util.List;
+import java.util.regex.Matcher;
+import java.util.regex.Pattern;
 
 /**
  * The document once more, written for the eye and not for the room: texts of characters 0 to 255, and a
@@ -292,7 +294,7 @@ final class Model {
             text += next();
             boolean may = false;
             for (String expression : expressions) {
-                java.util.regex.Matcher m = java.util.regex.Pattern.compile(expression).matcher(text);
+                Matcher m = Pattern.compile(expression).matcher(text);
                 may |= m.matches() || m.hitEnd();
             }
             if (!may) {

@@ -107,7 +107,8 @@ public final class ReadNumbersTest {
         due(head(77, 9, 9, 2, 5) + "TRAILER!\0\0\2\3", FORM, 20, 0);
         due(head(0, 0, 9, 0, 0) + "TRAILER!\0\0", FORM, 4, 0);
         due(head(0, 1, 9, 61, 0) + "TRAILER!\0\0", FORM, 6, 0);
-        due(entry(1, 1, "TRAILER", "") + entry(1, 1, "TRAILER!!", "") + entry(2, 1, "trailer!", "") + TRAILER, 3, -1, 3);
+        due(entry(1, 1, "TRAILER", "") + entry(1, 1, "TRAILER!!", "") + entry(2, 1, "trailer!", "") + TRAILER,
+                3, -1, 3);
         due(entry(1, 1, "a", "xy") + head(1, 1, 9, 0, 0) + "TRAILER!\0\0", 1, -1, 1);
         due(entry(1, 2, "a", "xy") + head(1, 2, 9, 0, 0) + "TRAILER!\0\0", LOST, 0, 1);
     }

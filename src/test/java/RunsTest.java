@@ -4,8 +4,9 @@ import java.util.Random;
 public final class RunsTest {
     private static final int RUNS = 400;
     private static final int CALLS = 512;
-    private static final int[] EDGES = {Integer.MIN_VALUE, -4, -3, -2, -1, 0, 1, 2, 3, 9, 10, 11, 12, 13, 15, 16, 20, 21,
-        32, 33, 47, 48, 57, 60, 61, 96, 97, 113, 126, 127, 128, 199, 200, 254, 255, 256, 300, 1499, 1500, Integer.MAX_VALUE};
+    private static final int[] EDGES = {Integer.MIN_VALUE, -4, -3, -2, -1, 0, 1, 2, 3, 9, 10, 11, 12, 13, 15, 16, 20,
+        21, 32, 33, 47, 48, 57, 60, 61, 96, 97, 113, 126, 127, 128, 199, 200, 254, 255, 256, 300, 1499, 1500,
+        Integer.MAX_VALUE};
     private static final String[] PARTS = {"!<a>", "a/      0   `\n", "b/      1   `\nx\n", "/0      0   `\n",
         "//      12  `\nlong.name./\n", "//      6   `\nab/c/\n", "/3      2   `\nxy", "begin ",
         "begin q\n", "`\nend\n", "#86)C\n", "/" + "1".repeat(20) + "\n",
