@@ -1077,7 +1077,8 @@ public final class SmallArchives {
             boolean goesOn = true;
             for (int turn = 0; turn < ENTRY_LIMIT && goesOn; turn++) {
                 entries.begin(in.position());
-                goesOn = unpackEntry(in, entries);
+                // TRAILER! is none, but is held to all that an ENTRY is held to.
+                goesOn = unpackEntry(in, entries) && !entries.isNamed(entries.last(), TRAILER);
                 if (!goesOn) {
                     entries.dropLast();
                 }
@@ -1088,7 +1089,6 @@ public final class SmallArchives {
             }
         }
 
-        /** False: a FINDING, or TRAILER!, behind which no ENTRY stands. */
         private static boolean unpackEntry(Cursor in, Entries entries) {
             int head = in.position();
             if (!in.expect(MARK_HIGH) || !in.expect(MARK_LOW) || !in.hasBytes(BEHIND_MARK)) {
@@ -1099,13 +1099,9 @@ public final class SmallArchives {
             int nameSize = (byte) in.take();
             int size = (short) in.takeTwo();
             int sum = in.takeTwo();
-            if (!isHeadSound(in, head, links, nameSize, size) || !unpackName(in, entries, nameSize - 1)) {
-                return false;
-            }
-            if (entries.isNamed(entries.last(), TRAILER)) {
-                return false;
-            }
-            if (!in.takeContents(entries, size)) {
+            if (!isHeadSound(in, head, links, nameSize, size)
+                    || !unpackName(in, entries, nameSize - 1)
+                    || !in.takeContents(entries, size)) {
                 return false;
             }
             if (entries.contentsSum(entries.last()) != sum) {

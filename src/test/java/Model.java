@@ -384,12 +384,12 @@ final class Model {
                 e.name += c;
             }
             want(nameSize % 2 == 1 ? "\0\0" : "\0");
-            if (e.name.equals("TRAILER!")) {
-                break;
-            }
             e.own = take(size);
             check(e.own.chars().sum() != head.charAt(6) * 256 + head.charAt(7), 5, e.begin + 8);
             want(size % 2 == 1 ? "\0" : "");
+            if (e.name.equals("TRAILER!")) {
+                break;
+            }
             entries.add(e);
         }
         want("\0".repeat(row.length() - at));

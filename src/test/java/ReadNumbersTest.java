@@ -10,6 +10,7 @@ public final class ReadNumbersTest {
         names();
         contents();
         trailer();
+        trailerBytes();
         lost();
         groups();
         groupsBehindFindings();
@@ -103,14 +104,36 @@ public final class ReadNumbersTest {
         due(TRAILER.substring(0, 18), INDEX, 18, 0);
         due(TRAILER.substring(0, 19), INDEX, 19, 0);
         due(TRAILER.substring(0, 19) + "x", FORM, 19, 0);
-        due(head(77, 9, 9, 50, 1234) + "TRAILER!\0\0", 0, -1, 0);
-        due(head(77, 9, 9, 2, 5) + "TRAILER!\0\0\2\3", FORM, 20, 0);
         due(head(0, 0, 9, 0, 0) + "TRAILER!\0\0", FORM, 4, 0);
         due(head(0, 1, 9, 61, 0) + "TRAILER!\0\0", FORM, 6, 0);
         due(entry(1, 1, "TRAILER", "") + entry(1, 1, "TRAILER!!", "") + entry(2, 1, "trailer!", "") + TRAILER,
                 3, -1, 3);
         due(entry(1, 1, "a", "xy") + head(1, 1, 9, 0, 0) + "TRAILER!\0\0", 1, -1, 1);
         due(entry(1, 2, "a", "xy") + head(1, 2, 9, 0, 0) + "TRAILER!\0\0", LOST, 0, 1);
+    }
+
+    /** TRAILER! is no ENTRY that is READ, but has all the FINDINGS of one. */
+    private static void trailerBytes() {
+        due(head(0, 1, 9, 0, 1) + "TRAILER!\0\0", SUM, 8, 0);
+        due(head(0, 1, 9, 0, 256) + "TRAILER!\0\0\1", SUM, 8, 0);
+        due(entry(1, 2, "a", "xy") + head(0, 1, 9, 0, 1) + "TRAILER!\0\0", SUM, 22, 1);
+        due(head(0, 1, 9, 0, 1) + "TRAILER!\0x", FORM, 19, 0);
+        due(head(0, 1, 9, 0, 1) + "TRAILER!\0", INDEX, 19, 0);
+        due(head(77, 9, 9, 50, 1234) + "TRAILER!\0\0", INDEX, 20, 0);
+        due(head(0, 1, 9, 50, 0) + "TRAILER!\0\0" + "\0".repeat(49), INDEX, 69, 0);
+        due(head(0, 1, 9, 50, 0) + "TRAILER!\0\0" + "\0".repeat(50), 0, -1, 0);
+        due(head(77, 9, 9, 2, 6) + "TRAILER!\0\0\2\3", SUM, 8, 0);
+        due(head(77, 9, 9, 2, 5) + "TRAILER!\0\0\2\3", 0, -1, 0);
+        due(head(77, 9, 9, 2, 5) + "TRAILER!\0\0\2\3\0\0\0", 0, -1, 0);
+        due(head(77, 9, 9, 2, 5) + "TRAILER!\0\0\2\3\0\4", FORM, 23, 0);
+        due(head(77, 9, 9, 1, 3) + "TRAILER!\0\0\3", INDEX, 21, 0);
+        due(head(77, 9, 9, 1, 3) + "TRAILER!\0\0\3\4", FORM, 21, 0);
+        due(head(77, 9, 9, 1, 4) + "TRAILER!\0\0\3\4", SUM, 8, 0);
+        due(entry(77, 9, "TRAILER!", Check.times("\u00ff", 60)), 0, -1, 0);
+        SmallArchives x = Check.withRow(entry(1, 2, "a", "A") + entry(1, 2, "b", "B") + entry(1, 2, "TRAILER!", "T"));
+        CHECK.dueRead("12: TRAILER! counts for no group", x, 1, 2, -1, 2);
+        CHECK.dueText("16: nor gives its bytes to one", Check.bytesOf(x, 0), "B");
+        CHECK.due("15: no such ENTRY", x.told(2, 0, 0), SmallArchives.OUTSIDE);
     }
 
     private static void lost() {

@@ -11,7 +11,7 @@ public final class RunsTest {
         "//      12  `\nlong.name./\n", "//      6   `\nab/c/\n", "/3      2   `\nxy", "begin ",
         "begin q\n", "`\nend\n", "#86)C\n", "/" + "1".repeat(20) + "\n",
         "\u00c7q\0\1\1\2\0\0\0\0a\0", "\u00c7q\0\1\2\2\0\1\0xa\0x\0", "\u00c7q\0\1\3\2\0\0\0\0b\0",
-        "\u00c7q\0\0\1\11\0\0\0\0TRAILER!\0\0", "\0\0"};
+        "\u00c7q\0\0\1\11\0\0\0\0TRAILER!\0\0", "\u00c7q\0\1\2\11\0\1\0xTRAILER!\0\0x\0", "\0\0"};
 
     private final Check check;
     private final Random random;
