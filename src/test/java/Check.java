@@ -4,6 +4,8 @@ import java.util.List;
 /** What the tests share: answers compared with those that are due, and short ways to fill an object. */
 final class Check {
     private final String title;
+    private String sentence = "";
+    private int sentences;
     private int wrong;
     private int asked;
 
@@ -11,11 +13,17 @@ final class Check {
         this.title = title;
     }
 
+    /** The document's words that the answers from here on are held to. */
+    void sentence(String words) {
+        sentence = " [" + words + "]";
+        sentences++;
+    }
+
     void due(String call, long got, long want) {
         asked++;
         if (got != want) {
             wrong++;
-            System.out.println(title + ": " + call + " answered " + got + ", due is " + want);
+            System.out.println(title + sentence + ": " + call + " answered " + got + ", due is " + want);
         }
     }
 
@@ -23,7 +31,8 @@ final class Check {
         asked++;
         if (!got.equals(want)) {
             wrong++;
-            System.out.println(title + ": " + call + " answered\n  " + got + "\ndue is\n  " + want);
+            System.out.println(title + sentence + ": " + call + " answered\n  " + shown(got) + "\ndue is\n  "
+                    + shown(want));
         }
     }
 
@@ -32,6 +41,11 @@ final class Check {
         due(what + ": read(" + form + ")", x.read(form), answer);
         due(what + ": place()", x.place(), place);
         due(what + ": entries()", x.entries(), entries);
+    }
+
+    /** A read of a new object with this ROW. */
+    void dueReadOf(String row, int form, int answer, int place, int entries) {
+        dueRead("12: " + shown(row), withRow(row), form, answer, place, entries);
     }
 
     void dueThrow(String call, SmallArchives x, int i, int k) {
@@ -45,7 +59,8 @@ final class Check {
     }
 
     void end() {
-        System.out.println(title + ": " + asked + " answers, " + wrong + " not as due");
+        String held = sentences == 0 ? "" : sentences + " sentences, ";
+        System.out.println(title + ": " + held + asked + " answers, " + wrong + " not as due");
         if (wrong != 0) {
             System.exit(1);
         }
@@ -83,7 +98,8 @@ final class Check {
 
     static String rowOf(SmallArchives x) {
         StringBuilder text = new StringBuilder();
-        for (int i = 0; i < x.row(SmallArchives.NONE); i++) {
+        int size = x.row(SmallArchives.NONE);
+        for (int i = 0; i < size; i++) {
             text.append((char) x.row(i));
         }
         return text.toString();
@@ -91,7 +107,8 @@ final class Check {
 
     static String nameOf(SmallArchives x, int i) {
         StringBuilder text = new StringBuilder();
-        for (int k = 0; k < x.told(i, 0, 0); k++) {
+        int size = x.told(i, 0, 0);
+        for (int k = 0; k < size; k++) {
             text.append((char) x.told(i, 4, k));
         }
         return text.toString();
@@ -99,8 +116,18 @@ final class Check {
 
     static String bytesOf(SmallArchives x, int i) {
         StringBuilder text = new StringBuilder();
-        for (int k = 0; k < x.told(i, 1, 0); k++) {
+        int size = x.told(i, 1, 0);
+        for (int k = 0; k < size; k++) {
             text.append((char) x.got(i, k));
+        }
+        return text.toString();
+    }
+
+    /** Bytes that are no plain signs as numbers, so that a row can be told in one line. */
+    private static String shown(String bytes) {
+        StringBuilder text = new StringBuilder();
+        for (char c : bytes.toCharArray()) {
+            text.append(c >= 32 && c < 127 ? "" + c : "<" + (int) c + ">");
         }
         return text.toString();
     }

@@ -2,7 +2,7 @@
 public final class ReadLinesTest {
     private static final Check CHECK = new Check("read lines");
     private static final int INDEX = -22, FORM = -24;
-    private static final String FULL_LINE = "/" + "````".repeat(5) + "\n";
+    private static final String FULL_LINE = Rows.FULL_LINE;
 
     public static void main(String[] args) {
         begins();
@@ -16,7 +16,7 @@ public final class ReadLinesTest {
     }
 
     private static void due(String row, int answer, int place, int entries) {
-        CHECK.dueRead("12: " + row, Check.withRow(row), 2, answer, place, entries);
+        CHECK.dueReadOf(row, 2, answer, place, entries);
     }
 
     private static void begins() {
