@@ -38,15 +38,10 @@ public final class BoundsRowTest {
         CHECK.due("row(0)", y.row(0), may ? v : 'x');
     }
 
-    /** THE ROW with 1452 bytes, made by 442 calls: no FORM comes to more. */
+    /** THE ROW with 1452 bytes: no FORM comes to more, and put() alone has not the calls. */
     private static SmallArchives nearlyFull() {
         SmallArchives x = new SmallArchives();
-        for (int i = 0; i < 3; i++) {
-            Check.add(x, Check.times("n", 20), Check.times("d", 60));
-        }
-        for (int i = 3; i < 12; i++) {
-            Check.addLink(x, Check.times("n", 20), 0);
-        }
+        Check.addMost(x);
         x.write(2);
         return x;
     }

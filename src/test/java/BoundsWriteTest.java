@@ -352,10 +352,8 @@ public final class BoundsWriteTest {
     /** The limits of FILES keep every ROW below 1500 bytes: FULL can not be met, and none is refused. */
     private static void writeFull() {
         CHECK.sentence("Promise 7: FULL: more than 1500 (THE ROW stays)");
-        SmallArchives x = with(Check.times("a", 20), Check.times("z", 60));
-        for (int i = 1; i < 12; i++) {
-            Check.addLink(x, Check.times("b", 20), 0);
-        }
+        SmallArchives x = new SmallArchives();
+        Check.addMost(x);
         CHECK.due("the most by FORM 0", x.write(0), 4 + 14 + 12 * 22 + 12 * (14 + 60));
         CHECK.due("the most by FORM 2", x.write(2), 12 * (6 + 20 + 1 + 4 * 22 + 2 + 4));
         CHECK.due("how many", x.row(NONE), 1452);

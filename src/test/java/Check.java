@@ -82,6 +82,14 @@ final class Check {
         x.link(to);
     }
 
+    /** 12 FILES as long as they may be: 323 calls, of which write(2) makes the longest ROW, 1452 bytes. */
+    static void addMost(SmallArchives x) {
+        add(x, times("n", 20), times("d", 60));
+        for (int i = 1; i < 12; i++) {
+            addLink(x, times("m", 20), 0);
+        }
+    }
+
     /** A new object with this ROW. */
     static SmallArchives withRow(String bytes) {
         SmallArchives x = new SmallArchives();

@@ -120,10 +120,7 @@ public final class EntriesTest {
     /** A read begins with nothing of the one before it, however often. */
     private static void readAgain() {
         SmallArchives x = new SmallArchives();
-        Check.add(x, Check.times("n", 20), Check.times("d", 60));
-        for (int i = 1; i < 12; i++) {
-            Check.addLink(x, Check.times("m", 20), 0);
-        }
+        Check.addMost(x);
         for (int turn = 0; turn < 20; turn++) {
             int form = turn % 3;
             x.write(form);

@@ -23,12 +23,7 @@ public final class RowTest {
         CHECK.due("8: row(NONE)", x.row(SmallArchives.NONE), 2);
         // An object is promised for 512 calls alone: the longest FORM brings THE ROW near its limit.
         SmallArchives y = new SmallArchives();
-        for (int i = 0; i < 3; i++) {
-            Check.add(y, Check.times("n", 20), Check.times("d", 60));
-        }
-        for (int i = 3; i < 12; i++) {
-            Check.addLink(y, Check.times("n", 20), 0);
-        }
+        Check.addMost(y);
         CHECK.due("8: the longest ROW", y.write(2), 1452);
         for (int n = 1453; n <= 1500; n++) {
             CHECK.due("8: put()", y.put(n & 255), n);

@@ -144,10 +144,7 @@ public final class WriteTest {
 
     private static void longest() {
         SmallArchives x = new SmallArchives();
-        Check.add(x, Check.times("a", 20), Check.times("z", 60));
-        for (int i = 1; i < 12; i++) {
-            Check.addLink(x, Check.times("b", 20), 0);
-        }
+        Check.addMost(x);
         CHECK.due("7: the longest of FORM 0", x.write(0), 4 + 14 + 12 * 22 + 12 * 74);
         CHECK.due("7: read(0)", x.read(0), 12);
         CHECK.due("7: same()", x.same(), 1);
