@@ -7,6 +7,8 @@ public final class BoundsEntriesTest {
 
     public static void main(String[] args) {
         readAnswers();
+        readBehindFinding();
+        readAgain();
         readOutside();
         placeOfFinding();
         placeNone();
@@ -42,6 +44,32 @@ public final class BoundsEntriesTest {
         CHECK.due("4 FORM", Check.withRow("x").read(0), -24);
         CHECK.due("5 SUM", Check.withRow(Rows.numbersHead(1, 1, 2, 0, 1) + "a\0").read(1), -25);
         CHECK.due("6 LOST", Check.withRow(two + Rows.TRAILER).read(1), -26);
+    }
+
+    private static void readBehindFinding() {
+        CHECK.sentence("Promise 12: THE ROW is READ by a FORM: how many ENTRIES, whatever was found before");
+        String[] rows = {Rows.START + Rows.heads("/0", "0", ""), "", Rows.numbersHead(1, 1, 128, 0, 0), "x",
+            Rows.numbersHead(1, 1, 2, 0, 1) + "a\0", Rows.numbers(1, 2, "b", "") + Rows.TRAILER};
+        int[] forms = {0, 1, 1, 2, 1, 1};
+        for (int kind = 1; kind <= 6; kind++) {
+            SmallArchives x = Check.withRow(rows[kind - 1]);
+            CHECK.due("a FINDING of KIND " + kind, x.read(forms[kind - 1]), -20 - kind);
+            Check.putRow(x, Rows.START + A);
+            CHECK.dueRead("none behind KIND " + kind, x, 0, 1, NONE, 1);
+        }
+    }
+
+    private static void readAgain() {
+        CHECK.sentence("Promise 12: THE ROW is READ by a FORM: how many ENTRIES, however often");
+        SmallArchives x = new SmallArchives();
+        Check.addMost(x);
+        for (int turn = 0; turn < 15; turn++) {
+            x.write(turn % 3);
+            CHECK.dueRead("turn " + turn, x, turn % 3, 12, NONE, 12);
+            CHECK.due("same()", x.same(), 1);
+            CHECK.due("the last NAME", x.told(11, 4, 19), 'm');
+            CHECK.due("the last byte", x.got(11, 59), 'd');
+        }
     }
 
     private static void readOutside() {
@@ -80,10 +108,8 @@ public final class BoundsEntriesTest {
         CHECK.due("no read", x.place(), NONE);
         x.write(0);
         CHECK.due("a write is none", x.place(), NONE);
-        x.read(1);
-        CHECK.due("one", x.place(), 0);
-        x.read(0);
-        CHECK.due("none again", x.place(), NONE);
+        CHECK.dueRead("one", x, 1, -24, 0, 0);
+        CHECK.dueRead("none again", x, 0, 0, NONE, 0);
     }
 
     private static void placeOfLatest() {

@@ -351,5 +351,14 @@ public final class BoundsFilesTest {
         CHECK.due("no LINK is left", x.data('D'), 1);
         x.write(1);
         CHECK.due("nor in what is written", x.row(NONE), 14 + 14 + 20);
+        SmallArchives y = new SmallArchives();
+        Check.addMost(y);
+        CHECK.due("the longest NAMES", y.clear(), 12);
+        Check.add(y, Check.times("q", 20), Check.times("e", 60));
+        CHECK.due("there is no room for more", y.name('q') + y.data('e'), 2 * FULL);
+        y.write(2);
+        y.read(2);
+        CHECK.dueText("a whole NAME has room again", Check.nameOf(y, 0), Check.times("q", 20));
+        CHECK.dueText("and whole CONTENTS", Check.bytesOf(y, 0), Check.times("e", 60));
     }
 }

@@ -205,8 +205,9 @@ public final class RefusedTest {
         SmallArchives y = run.made();
         y.name('x');
         y.write(2);
+        int written = y.row(SmallArchives.NONE);
         List<Call> bytes = new ArrayList<>();
-        for (int i = -1; i < y.row(SmallArchives.NONE); i++) {
+        for (int i = -1; i < written; i++) {
             bytes.add(new Call("row", i));
         }
         dueAlike(with, run, call, seen, bytes);
