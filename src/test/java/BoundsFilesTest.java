@@ -352,7 +352,9 @@ public final class BoundsFilesTest {
         x.write(1);
         CHECK.due("nor in what is written", x.row(NONE), 14 + 14 + 20);
         SmallArchives y = new SmallArchives();
+        y.clear();
         Check.addMost(y);
+        CHECK.due("behind it there is room for 12 whole NAMES", y.name('q'), FULL);
         CHECK.due("the longest NAMES", y.clear(), 12);
         Check.add(y, Check.times("q", 20), Check.times("e", 60));
         CHECK.due("there is no room for more", y.name('q') + y.data('e'), 2 * FULL);
